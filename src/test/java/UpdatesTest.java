@@ -29,6 +29,7 @@ public final class UpdatesTest {
         test.promise12FailsAtEachWrite();
         test.promise12TearsWords();
         test.promise12Refuses();
+        test.promise12CountsTheBytesOfThisTransfer();
         test.promise13Confirms();
         test.promise13KeepsTheGreaterCounter();
         test.promise13FailsAtEachWrite();
@@ -322,6 +323,18 @@ public final class UpdatesTest {
         Devices.transfer(longBefore, 2, 0, 1);
         due.same("finish() over a longer image", longBefore.finish(1), true);
         due.same("isStartable(1)", longBefore.isStartable(1), true);
+    }
+
+    /** The right bytes of an earlier transfer still stand in the slot, but they have not come in this one. */
+    private void promise12CountsTheBytesOfThisTransfer() {
+        Bootstay x = Devices.withTransfer(2, 0, 5, 6);
+        x.offer(2, 2, Devices.hashOf(5, 6), 0);
+        due.refused("finish() before the bytes have come again", x, STATE, () -> x.finish(1));
+        due.refused("safeFinish() before the bytes have come again", x, STATE, () -> x.safeFinish(1));
+        x.put(5);
+        due.refused("finish() before the last byte has come again", x, STATE, () -> x.finish(1));
+        x.put(6);
+        due.same("finish() when they have", x.finish(1), true);
     }
 
     private void promise13Confirms() {
