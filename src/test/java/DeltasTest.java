@@ -15,14 +15,19 @@ public final class DeltasTest {
         test.promise15Refuses();
         test.promise16();
         test.promise17();
+        test.promise17FollowsEachByte();
         test.promises18To20OfTheNewImage();
         test.promises18To20TakeTheLongest();
         test.promises18To20TakeTheFirst();
         test.promises18To20GoFromTheLeft();
         test.promises18To20EndWithTheImage();
+        test.promises18To20EndWithTheDraft();
+        test.promises18To20OfShortImages();
+        test.promises18To20OfLongDrafts();
         test.promises18To20AtFullLength();
         test.promises18To20WithoutPower();
         test.promises18To20FollowTheFlash();
+        test.promises18To20WithoutTheMark();
         test.promises18To20Refuse();
         test.due.end("DeltasTest");
     }
@@ -98,6 +103,17 @@ public final class DeltasTest {
         due.same("draftHash() of 24 bytes", x.draftHash(), Devices.hashOf(bytes));
     }
 
+    private void promise17FollowsEachByte() {
+        Bootstay x = new Bootstay();
+        int[] bytes = Devices.bytes(24, 250);
+        long hash = 17;
+        for (int value : bytes) {
+            x.draft(value);
+            hash = (hash * 31 + value + 1) % 65521;
+            due.same("draftHash() behind " + value, (long) x.draftHash(), hash);
+        }
+    }
+
     private void promises18To20OfTheNewImage() {
         Bootstay x = new Bootstay();
         due.same("the delta of an empty draft", delta(x, 0), "");
@@ -152,6 +168,40 @@ public final class DeltasTest {
         due.same("the zeros behind the image", delta(x, 0), "1@-1 1@-1 1@-1");
     }
 
+    /** What an earlier, longer draft had there is no part of the draft. */
+    private void promises18To20EndWithTheDraft() {
+        Bootstay x = drafted(9, 1, 2, 3);
+        due.same("the longer draft", delta(x, 0), "1@-1 3@0");
+        x.clearDraft();
+        Devices.drafts(x, 9, 1);
+        due.same("the shorter draft", delta(x, 0), "1@-1 1@-1");
+        x.clearDraft();
+        Devices.drafts(x, 9, 1, 2);
+        due.same("the draft between", delta(x, 0), "1@-1 2@0");
+    }
+
+    private void promises18To20OfShortImages() {
+        Bootstay one = Devices.withTrialDue(1, 2, 0, 7);
+        Devices.drafts(one, 7, 7);
+        due.same("an image of one byte has no run", delta(one, 1), "1@-1 1@-1");
+        Bootstay two = Devices.withTrialDue(1, 2, 0, 7, 8);
+        Devices.drafts(two, 7, 8, 8, 7, 8, 7);
+        due.same("an image of two bytes has one", delta(two, 1), "2@0 1@-1 2@0 1@-1");
+        Bootstay zeros = Devices.withTrialDue(1, 2, 0, 0, 0);
+        Devices.drafts(zeros, 0, 0, 0);
+        due.same("zeros behind the image are none of it", delta(zeros, 1), "2@0 1@-1");
+    }
+
+    private void promises18To20OfLongDrafts() {
+        Bootstay x = drafted(1, 2, 3, 4, 5, 6, 7, 8, 1, 2, 3, 4, 5, 6, 7, 8, 1, 2, 3, 4, 5, 6, 7, 8);
+        due.same("three times the image", delta(x, 0), "8@0 8@0 8@0");
+        due.refused("the piece behind the last", x, PLACE, () -> x.deltaFrom(0, 3));
+        x.clearDraft();
+        Devices.drafts(x, 7, 8, 9, 8, 7);
+        due.same("the last two bytes of the image", delta(x, 0), "2@6 1@-1 1@-1 1@-1");
+        due.same("the last piece", x.deltaLength(0, 3), 1);
+    }
+
     private void promises18To20AtFullLength() {
         int[] image = Devices.bytes(24, 100);
         Bootstay x = Devices.updated(2, 0, image);
@@ -182,6 +232,20 @@ public final class DeltasTest {
         x.finish(1);
         due.same("against the new image of slot 0", delta(x, 0), "1@-1 2@0");
         due.same("against slot 1", delta(x, 1), "3@0");
+    }
+
+    /** A slot that an offer has made not startable, though its image is there. */
+    private void promises18To20WithoutTheMark() {
+        Bootstay x = Devices.updated(2, 0, 6, 5, 4);
+        Devices.drafts(x, 1, 2);
+        due.same("before the offer", delta(x, 0), "2@0");
+        x.offer(3, 1, 0, 0);
+        due.refused("deltaPieces(0)", x, STATE, () -> x.deltaPieces(0));
+        due.refused("deltaLength(0, 0)", x, STATE, () -> x.deltaLength(0, 0));
+        due.refused("deltaLength(0, 1)", x, STATE, () -> x.deltaLength(0, 1));
+        due.refused("deltaFrom(0, 0)", x, STATE, () -> x.deltaFrom(0, 0));
+        due.refused("deltaFrom(0, -1)", x, STATE, () -> x.deltaFrom(0, -1));
+        due.same("against the running slot", delta(x, 1), "1@-1 1@-1");
     }
 
     private void promises18To20Refuse() {

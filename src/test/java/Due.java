@@ -13,11 +13,11 @@ final class Due {
         }
     }
 
-    /** The call throws exactly this exception, and the device shows the same before and after it. */
+    /** The call throws exactly this exception, and the device holds the same before and after it. */
     void refused(String what, Bootstay device, Class<? extends RuntimeException> due, Supplier<Object> call) {
-        String before = Devices.shown(device);
+        String before = Inside.state(device);
         same(what, answer(call), "throws " + due.getSimpleName());
-        same(what + ": what the device shows then", Devices.shown(device), before);
+        same(what + ": what the device holds then", Inside.state(device), before);
     }
 
     static Object answer(Supplier<Object> call) {

@@ -14,15 +14,20 @@ public final class PowerTest {
         test.promise1FailureIsNotChosen();
         test.promise2StartsTheConfirmedSlot();
         test.promise2CountsTheTriesDown();
+        test.promise2StartsAsOftenAsThereAreTries();
         test.promise2FallsBack();
         test.promise2CounterTooLow();
         test.promise2FailsOnTheWay();
         test.promise2TornFallback();
+        test.promise2WithoutAWriteMeetsNoFailure();
         test.promise3SwitchesOff();
+        test.promise3WritesNothing();
         test.promise4ChoosesAWrite();
         test.promise4ChoiceIsReplaced();
         test.promise4OutOfRange();
         test.promise4EdgeOfTheRange();
+        test.promise4LeastOfTheRange();
+        test.promise4ChoiceOutlastsQuestions();
         test.promises5And6And7();
         test.promise8CountsWrites();
         test.due.end("PowerTest");
@@ -72,6 +77,19 @@ public final class PowerTest {
             due.same("record()", x.record(), 1 - record);
         }
         due.refused("offer() with no tries left, the trial being due", x, STATE, () -> x.offer(9, 1, 0, 0));
+    }
+
+    private void promise2StartsAsOftenAsThereAreTries() {
+        for (int tries = 1; tries <= 3; tries++) {
+            Bootstay x = Devices.withTrialDue(tries, 2, 0, 4, 5);
+            int trials = 0;
+            for (int start = 0; start < 6; start++) {
+                x.switchOff();
+                trials += x.switchOn() == 1 ? 1 : 0;
+                due.same("tries() behind start " + start, x.tries(), Math.max(0, tries - start - 1));
+            }
+            due.same("starts of slot 1 with " + tries + " tries", trials, tries);
+        }
     }
 
     private void promise2FallsBack() {
@@ -135,6 +153,24 @@ public final class PowerTest {
         due.same("the trial is still due", x.wouldStart(), 0);
         due.same("switchOn() again", x.switchOn(), 0);
         due.same("offer()", x.offer(2, 1, 0, 0), true);
+    }
+
+    private void promise2WithoutAWriteMeetsNoFailure() {
+        Bootstay x = new Bootstay();
+        x.failAfter(0);
+        due.same("switchOn() without a trial due", x.switchOn(), 0);
+        due.same("the choice is still there", x.offer(2, 1, 0, 0), false);
+    }
+
+    private void promise3WritesNothing() {
+        Bootstay x = Devices.withTransfer(2, 0, 4, 5);
+        Devices.drafts(x, 6);
+        String words = Devices.joined(Inside.words(x));
+        x.failAfter(0);
+        due.same("switchOff() with a failure chosen", x.switchOff(), 0);
+        due.same("writes()", x.writes(), 3);
+        due.same("the flash", Devices.joined(Inside.words(x)), words);
+        due.same("the draft", x.draftHash(), Devices.hashOf(6));
     }
 
     private void promise3SwitchesOff() {
@@ -211,6 +247,29 @@ public final class PowerTest {
             done = x.writes();
         }
         due.same("writes() when 1000 were done before the failure", done, 1001);
+    }
+
+    private void promise4LeastOfTheRange() {
+        Bootstay x = Devices.on();
+        x.failAfter(-1);
+        due.same("failAfter(-1) with none chosen", x.offer(2, 1, 0, 0), true);
+        x.failAfter(0);
+        due.same("failAfter(0) fails at the next write", x.put(1), false);
+        due.same("writes()", x.writes(), 2);
+        x.switchOn();
+        x.failAfter(1);
+        due.same("failAfter(1) lets one write be done", x.offer(2, 1, 0, 0), true);
+        due.same("and fails at the one behind it", x.put(1), false);
+    }
+
+    private void promise4ChoiceOutlastsQuestions() {
+        Bootstay x = Devices.withTransfer(2, 0, 4, 5);
+        x.failAfter(0);
+        x.wouldStart();
+        x.safeFinish(1);
+        x.isStartable(1);
+        x.deltaPieces(0);
+        due.same("the first write fails", x.finish(1), false);
     }
 
     private void promises5And6And7() {

@@ -18,11 +18,13 @@ public final class UpdatesTest {
         test.promise9EdgesOfTheRanges();
         test.promise9NotNow();
         test.promise9TooOld();
+        test.promise9AtTheGreatest();
         test.promise10Puts();
         test.promise10Fails();
         test.promise10Refuses();
         test.promise11Copies();
         test.promise11CopiesByTheLength();
+        test.promise11CopiesTheLastPlace();
         test.promise11Fails();
         test.promise11Refuses();
         test.promise12Finishes();
@@ -30,8 +32,11 @@ public final class UpdatesTest {
         test.promise12TearsWords();
         test.promise12Refuses();
         test.promise12CountsTheBytesOfThisTransfer();
+        test.promise12EdgesOfTheRanges();
+        test.promise12GoesOnFromAWrongHash();
         test.promise13Confirms();
         test.promise13KeepsTheGreaterCounter();
+        test.promise13CounterOfTheRecordIsGreater();
         test.promise13FailsAtEachWrite();
         test.promise13Refuses();
         test.promise14();
@@ -132,6 +137,23 @@ public final class UpdatesTest {
         due.same("the version of the slot that does not run is no bar", back.offer(2, 1, 0, 0), true);
     }
 
+    /** No version is above 9999, and no counter is below 0. */
+    private void promise9AtTheGreatest() {
+        Bootstay x = Devices.updated(9998, 9999, 4);
+        due.refused("offer() of the counter 9998", x, STATE, () -> x.offer(9999, 1, 0, 9998));
+        due.refused("offer() of the version 9998", x, STATE, () -> x.offer(9998, 1, 0, 9999));
+        due.same("offer() of the version 9999", x.offer(9999, 1, Devices.hashOf(5), 9999), true);
+        x.put(5);
+        x.finish(1);
+        x.switchOff();
+        x.switchOn();
+        x.confirm();
+        due.same("version(0)", x.version(0), 9999);
+        due.same("counter()", x.counter(), 9999);
+        due.refused("offer() of the version 9999 again", x, STATE, () -> x.offer(9999, 1, 0, 9999));
+        due.refused("offer() of the version 10000", x, ARGUMENT, () -> x.offer(10000, 1, 0, 9999));
+    }
+
     private void promise10Puts() {
         Bootstay x = Devices.on();
         x.offer(2, 24, 0, 0);
@@ -205,6 +227,17 @@ public final class UpdatesTest {
         due.refused("copy() beyond a length of 1", y, ARGUMENT, () -> y.copy(1, 1));
         due.refused("copy() over the end of a length of 1", y, ARGUMENT, () -> y.copy(0, 2));
         due.same("copy() up to a length of 1", y.copy(0, 1), 1);
+    }
+
+    private void promise11CopiesTheLastPlace() {
+        Bootstay x = Devices.on();
+        x.offer(2, 3, 0, 0);
+        due.refused("copy() of the place behind the last", x, ARGUMENT, () -> x.copy(8, 1));
+        due.refused("copy() over the end", x, ARGUMENT, () -> x.copy(7, 2));
+        due.same("copy() of the last place", x.copy(7, 1), 1);
+        due.same("copy() of the first place", x.copy(0, 1), 1);
+        due.same("the bytes", Devices.image(x, 1, 3), "8 1 0");
+        due.same("toCome()", x.toCome(), 1);
     }
 
     private void promise11Fails() {
@@ -337,6 +370,33 @@ public final class UpdatesTest {
         due.same("finish() when they have", x.finish(1), true);
     }
 
+    /** The least update and the greatest one, each with the least and the greatest number of tries. */
+    private void promise12EdgesOfTheRanges() {
+        int[] edges = {1, 3};
+        for (int tries : edges) {
+            Bootstay least = Devices.withTransfer(2, 0, 0);
+            due.same("finish(" + tries + ") of a byte", least.finish(tries), true);
+            due.same("the words", Inside.slotWords(least, 1), "1 2 1 528 0");
+            due.same("tries()", least.tries(), tries);
+            Bootstay greatest = Devices.withTransfer(9999, 9999, Devices.bytes(24, 232));
+            due.same("finish(" + tries + ") of 24 bytes", greatest.finish(tries), true);
+            due.same("the words", Inside.slotWords(greatest, 1),
+                    "1 9999 24 " + Devices.hashOf(Devices.bytes(24, 232)) + " 9999");
+            due.same("tries()", greatest.tries(), tries);
+            due.same("counter() is that of the record in force", greatest.counter(), 0);
+        }
+    }
+
+    private void promise12GoesOnFromAWrongHash() {
+        Bootstay x = Devices.on();
+        x.offer(2, 1, Devices.hashOf(4) + 1, 0);
+        x.put(4);
+        due.refused("finish() with a hash that is 1 too small", x, STATE, () -> x.finish(1));
+        due.refused("put() then", x, STATE, () -> x.put(5));
+        Devices.transfer(x, 2, 0, 4);
+        due.same("finish() of the next offer", x.finish(1), true);
+    }
+
     private void promise13Confirms() {
         Bootstay x = Devices.onTrial(3, 2, 4, 7);
         int before = x.writes();
@@ -362,6 +422,18 @@ public final class UpdatesTest {
         due.same("confirm() of slot 0", x.confirm(), true);
         due.same("counter() stays", x.counter(), 9999);
         due.same("confirmed()", x.confirmed(), 0);
+    }
+
+    /** No run of calls brings it about: the counter of the slot is never below that of the record. */
+    private void promise13CounterOfTheRecordIsGreater() {
+        int[][] counters = {{4, 5, 5}, {5, 5, 5}, {6, 5, 6}, {0, 0, 0}, {9999, 0, 9999}, {0, 9999, 9999}};
+        for (int[] c : counters) {
+            Bootstay x = Devices.onTrial(2, 2, 0, 7);
+            Inside.setSlot(x, 1, Inside.COUNTER, c[0]);
+            Inside.setValid(x, 0, 3, 6, c[1]);
+            due.same("confirm()", x.confirm(), true);
+            due.same("counter() of " + c[0] + " and " + c[1], x.counter(), c[2]);
+        }
     }
 
     private void promise13FailsAtEachWrite() {

@@ -13,6 +13,7 @@ public final class WhatIfTest {
         test.promise29Counts();
         test.promise29AsPlayedThrough();
         test.promise29LeavesAChosenFailure();
+        test.promise29CountsWhatIsStartable();
         test.promise29Refuses();
         test.promise30();
         test.promise30AsPlayedThrough();
@@ -54,6 +55,21 @@ public final class WhatIfTest {
         int before = x.writes();
         due.same("finish() meets the failure", x.finish(1), false);
         due.same("writes()", x.writes() - before, 4);
+    }
+
+    /** No run of calls brings a slot about that is confirmed and not startable: here it is broken by hand. */
+    private void promise29CountsWhatIsStartable() {
+        Bootstay broken = Devices.withTransfer(2, 0, 4, 5, 6);
+        Inside.setSlot(broken, 0, Inside.MARK, 0);
+        due.same("safeFinish() when slot 0 is not startable", broken.safeFinish(1), 0);
+        due.same("wouldStart() then", broken.wouldStart(), 0);
+        // With a trial due, slot 1 starts once its mark is written: at the last five of the ten writes.
+        Inside.setValid(broken, 0, 1, 6, 0);
+        String before = Devices.joined(Inside.words(broken));
+        due.same("safeFinish() with a trial due", broken.safeFinish(1), 5);
+        due.same("the flash then", Devices.joined(Inside.words(broken)), before);
+        Inside.setSlot(broken, 0, Inside.MARK, 1);
+        due.same("safeFinish() when slot 0 is startable again", broken.safeFinish(3), 10);
     }
 
     private void promise29Refuses() {
